@@ -28,6 +28,10 @@ public final class EndTables {
     private static final int DIRECTIONS = 16;
     private static final int KING_DIRECTIONS = 8;
 
+    /** Ways to lay a board upon itself; the first two keep each rank in its place, as a pawn needs. */
+    private static final int SYMMETRIES = 8;
+    private static final int PAWN_SYMMETRIES = 2;
+
     /** By man: the directions in which it attacks are those from the first to before the end. */
     private static final int[] FIRST_DIRECTION = {0, 4, 8, 4, 0, 0};
     private static final int[] END_DIRECTION = {0, 6, 16, 8, 4, 8};
@@ -160,9 +164,8 @@ public final class EndTables {
     /** All checks come before the first change, as a call that throws must change nothing. */
     private void standOn(int man, int strong, int piece, int weak, boolean strongMoves) {
         requireOnBoard(man, strong, piece, weak);
-        Table table = tableFor(man);
-        byte[] distances = strongMoves ? table.strong : table.weak;
-        if (distances[board.index(strong, piece, weak)] == NO_POSITION) {
+        tableFor(man);
+        if (entryOf(man, strong, piece, weak, strongMoves) == NO_POSITION) {
             throw new IllegalStateException("this is no position");
         }
         here.man = man;
@@ -377,6 +380,8 @@ public final class EndTables {
         private final int squares;
         /** By direction and square: the next square that way, or NONE at the board's edge. */
         private final int[][] step;
+        /** By symmetry and square: the square that it is laid upon. */
+        private final int[][] image;
         /** What the latest call of reach() found. */
         private final int[] reached;
 
@@ -384,12 +389,16 @@ public final class EndTables {
             this.side = side;
             squares = side * side;
             step = new int[DIRECTIONS][squares];
+            image = new int[SYMMETRIES][squares];
             reached = new int[MOST_MOVES];
             for (int d = 0; d < DIRECTIONS; d++) {
                 for (int square = 0; square < squares; square++) {
                     step[d][square] = NONE;
                 }
                 fillSteps(step[d], side, FILE_STEPS[d], RANK_STEPS[d]);
+            }
+            for (int g = 0; g < SYMMETRIES; g++) {
+                fillImages(image[g], side, g);
             }
         }
 
@@ -401,6 +410,18 @@ public final class EndTables {
                     if (toFile >= 0 && toFile < side && toRank >= 0 && toRank < side) {
                         row[rank * side + file] = toRank * side + toFile;
                     }
+                }
+            }
+        }
+
+        /** Symmetry g mirrors the files if it has the bit 1, the ranks if 2, and swaps them if 4. */
+        private static void fillImages(int[] row, int side, int g) {
+            for (int rank = 0; rank < side; rank++) {
+                for (int file = 0; file < side; file++) {
+                    int toFile = (g & 1) == 0 ? file : side - 1 - file;
+                    int toRank = (g & 2) == 0 ? rank : side - 1 - rank;
+                    row[rank * side + file] =
+                            (g & 4) == 0 ? toRank * side + toFile : toFile * side + toRank;
                 }
             }
         }
@@ -454,6 +475,24 @@ public final class EndTables {
             }
             return found;
         }
+
+        /** As reach(), but the squares from which the man may have come by its latest move. */
+        int reachBack(int man, int to, int oneKing, int otherKing) {
+            if (man != PAWN) {
+                return reach(man, to, oneKing, otherKing);
+            }
+            int one = to - side;
+            if (one < 0 || one == oneKing || one == otherKing) {
+                return 0;
+            }
+            reached[0] = one;
+            int two = one - side;
+            if (two < 0 || !mayStepTwo(two)) {
+                return 1;
+            }
+            reached[1] = two;
+            return 2;
+        }
     }
 
     /** One man's distances, by Board.index(), for either side to move. */
@@ -490,7 +529,7 @@ public final class EndTables {
     /** Fills tables from the mates backwards, one half move a level. */
     private static final class Solver {
         private final Board board;
-        /** All positions that have got a distance, in its order; each enters once. */
+        /** Positions that have got a distance, in its order; none enters twice. */
         private final int[] queue;
         private final byte[] kingRow;
         private int queued;
@@ -650,39 +689,21 @@ public final class EndTables {
             int w = entry & 63;
             for (int k = 0; k < KING_DIRECTIONS; k++) {
                 int from = board.step[k][s];
-                if (from >= 0) {
-                    offerStrong(table, from, p, w, d);
+                if (from >= 0 && isBetter(d, table.strong[board.index(from, p, w)])) {
+                    settle(table, table.strong, from, p, w, d);
                 }
             }
-            if (table.man == PAWN) {
-                takeBackPawnMoves(table, s, p, w, d);
-                return;
-            }
-            int found = board.reach(table.man, p, s, w);
+            int found = board.reachBack(table.man, p, s, w);
             for (int k = 0; k < found; k++) {
-                offerStrong(table, s, board.reached[k], w, d);
+                int from = board.reached[k];
+                if (isBetter(d, table.strong[board.index(s, from, w)])) {
+                    settle(table, table.strong, s, from, w, d);
+                }
             }
         }
 
-        private void takeBackPawnMoves(Table table, int s, int p, int w, int d) {
-            int one = p - board.side;
-            if (one < 0 || one == s || one == w) {
-                return;
-            }
-            offerStrong(table, s, one, w, d);
-            int two = one - board.side;
-            if (two >= 0 && board.mayStepTwo(two)) {
-                offerStrong(table, s, two, w, d);
-            }
-        }
-
-        private void offerStrong(Table table, int s, int p, int w, int d) {
-            int index = board.index(s, p, w);
-            int known = table.strong[index];
-            if (known == NONE || known > d) {
-                table.strong[index] = (byte) d;
-                enqueue(s, p, w);
-            }
+        private static boolean isBetter(int d, int known) {
+            return known == NONE || known > d;
         }
 
         private void takeBackWeakMoves(Table table, int entry, int d) {
@@ -695,10 +716,19 @@ public final class EndTables {
                 int from = board.step[k][w];
                 if (from >= 0 && table.weak[row + from] == NONE
                         && losesBefore(table, row, p, from, guarded, d)) {
-                    table.weak[row + from] = (byte) d;
-                    enqueue(s, p, from);
+                    settle(table, table.weak, s, p, from, d);
                 }
             }
+        }
+
+        /** Positions that are laid upon one another have one distance, so one is queued for all. */
+        private void settle(Table table, byte[] distances, int s, int p, int w, int d) {
+            int symmetries = table.man == PAWN ? PAWN_SYMMETRIES : SYMMETRIES;
+            for (int g = 0; g < symmetries; g++) {
+                int[] image = board.image[g];
+                distances[board.index(image[s], image[p], image[w])] = (byte) d;
+            }
+            enqueue(s, p, w);
         }
 
         private void enqueue(int s, int p, int w) {

@@ -24,7 +24,7 @@ public final class ReferenceTest {
             if (n <= 5) {
                 test.compareAllPositions();
             } else {
-                test.compareSomePositions(15_000);
+                test.compareSomePositions(30_000);
             }
             test.answers.end("ReferenceTest, N = " + n);
         }
