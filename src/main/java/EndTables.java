@@ -28,7 +28,7 @@ public final class EndTables {
     private static final int DIRECTIONS = 16;
     private static final int KING_DIRECTIONS = 8;
 
-    /** Ways to lay a board upon itself; the first two keep each rank in its place, as a pawn needs. */
+    /** Ways to lay a board upon itself; the first two keep each rank, as a pawn needs. */
     private static final int SYMMETRIES = 8;
     private static final int PAWN_SYMMETRIES = 2;
 
@@ -414,7 +414,7 @@ public final class EndTables {
             }
         }
 
-        /** Symmetry g mirrors the files if it has the bit 1, the ranks if 2, and swaps them if 4. */
+        /** Symmetry g mirrors files if it has the bit 1, ranks if 2, and swaps them if 4. */
         private static void fillImages(int[] row, int side, int g) {
             for (int rank = 0; rank < side; rank++) {
                 for (int file = 0; file < side; file++) {
