@@ -58,7 +58,7 @@ public final class EndTables {
 
     public int distance(int man, int strong, int piece, int weak, boolean strongMoves)
             throws IllegalArgumentException, IllegalStateException {
-        standOn(man, strong, piece, weak, strongMoves);
+        standOnSolved(man, strong, piece, weak, strongMoves);
         return distanceHere();
     }
 
@@ -70,7 +70,7 @@ public final class EndTables {
 
     public int best(int man, int strong, int piece, int weak, boolean strongMoves)
             throws IllegalArgumentException, IllegalStateException {
-        standOn(man, strong, piece, weak, strongMoves);
+        standOnSolved(man, strong, piece, weak, strongMoves);
         return bestHere();
     }
 
@@ -79,7 +79,7 @@ public final class EndTables {
         if (n < 0 || n > MOST_PLAYED) {
             throw new IllegalArgumentException("n is not 0 to 200");
         }
-        standOn(man, strong, piece, weak, strongMoves);
+        standOnSolved(man, strong, piece, weak, strongMoves);
         int played = 0;
         while (played < n) {
             int move = bestHere();
@@ -128,13 +128,7 @@ public final class EndTables {
         if (strong == piece || piece == weak || strong == weak) {
             throw new IllegalArgumentException("two of the three stand on one square");
         }
-        int found = board.reach(man, piece, strong, weak);
-        for (int k = 0; k < found; k++) {
-            if (board.reached[k] == square) {
-                return 1;
-            }
-        }
-        return 0;
+        return board.isAttacked(square, man, piece, strong, weak) ? 1 : 0;
     }
 
     public int look(int which) {
@@ -164,8 +158,7 @@ public final class EndTables {
     /** All checks come before the first change, as a call that throws must change nothing. */
     private void standOn(int man, int strong, int piece, int weak, boolean strongMoves) {
         requireOnBoard(man, strong, piece, weak);
-        tableFor(man);
-        if (entryOf(man, strong, piece, weak, strongMoves) == NO_POSITION) {
+        if (!board.isPosition(man, strong, piece, weak, strongMoves)) {
             throw new IllegalStateException("this is no position");
         }
         here.man = man;
@@ -173,6 +166,12 @@ public final class EndTables {
         here.piece = piece;
         here.weak = weak;
         here.strongMoves = strongMoves;
+    }
+
+    /** As standOn(), for what asks for distances and so needs the man's table. */
+    private void standOnSolved(int man, int strong, int piece, int weak, boolean strongMoves) {
+        standOn(man, strong, piece, weak, strongMoves);
+        tableFor(man);
     }
 
     /** A pawn's table rests on those of all that it can become, so these are made before it. */
@@ -247,7 +246,7 @@ public final class EndTables {
             }
             boolean allowed = to == here.piece
                     ? !board.isBeside(to, here.strong)
-                    : entryOf(here.man, here.strong, here.piece, to, true) != NO_POSITION;
+                    : board.isPosition(here.man, here.strong, here.piece, to, true);
             if (allowed) {
                 moveRow[found] = Position.moveOf(here.weak, to, 0);
                 found++;
@@ -260,8 +259,7 @@ public final class EndTables {
         int found = 0;
         for (int d = 0; d < KING_DIRECTIONS; d++) {
             int to = board.step[d][here.strong];
-            if (to >= 0
-                    && entryOf(here.man, to, here.piece, here.weak, false) != NO_POSITION) {
+            if (to >= 0 && board.isPosition(here.man, to, here.piece, here.weak, false)) {
                 moveRow[found] = Position.moveOf(here.strong, to, 0);
                 found++;
             }
@@ -449,6 +447,26 @@ public final class EndTables {
         boolean isBeside(int one, int other) {
             for (int d = 0; d < KING_DIRECTIONS; d++) {
                 if (step[d][one] == other) {
+                    return true;
+                }
+            }
+            return false;
+        }
+
+        boolean isPosition(int man, int strong, int piece, int weak, boolean strongMoves) {
+            if (strong == piece || piece == weak || strong == weak) {
+                return false;
+            }
+            if (isBeside(strong, weak) || !isRankForMan(man, piece)) {
+                return false;
+            }
+            return !strongMoves || !isAttacked(weak, man, piece, strong, weak);
+        }
+
+        boolean isAttacked(int square, int man, int from, int oneKing, int otherKing) {
+            int found = reach(man, from, oneKing, otherKing);
+            for (int k = 0; k < found; k++) {
+                if (reached[k] == square) {
                     return true;
                 }
             }

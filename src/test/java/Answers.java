@@ -21,6 +21,12 @@ final class Answers {
         due(call, of(got), "throws." + exception);
     }
 
+    /** Any answer is due, but no exception. */
+    void dueAnswer(String call, IntSupplier got) {
+        String answer = of(got);
+        due(call, answer.startsWith("throws") ? answer : "an answer", "an answer");
+    }
+
     void due(String call, String got, String want) {
         asked++;
         if (!got.equals(want)) {

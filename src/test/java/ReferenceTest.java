@@ -5,12 +5,9 @@ import java.util.Random;
  * four and five squares a side, and many of the larger boards, whose counts are all compared.
  */
 public final class ReferenceTest {
-    private static final int CALLS_OF_AN_OBJECT = 512;
-
     private final Answers answers = new Answers();
     private final Reference due;
-    private EndTables tables;
-    private int calls = CALLS_OF_AN_OBJECT;
+    private final Pool pool = new Pool();
 
     private ReferenceTest(int n) {
         due = new Reference(n);
@@ -30,14 +27,8 @@ public final class ReferenceTest {
         }
     }
 
-    /** An object that still has some calls left before its 512th. */
     private EndTables object(int callsNeeded) {
-        if (calls + callsNeeded > CALLS_OF_AN_OBJECT) {
-            tables = new EndTables(due.n);
-            calls = 0;
-        }
-        calls += callsNeeded;
-        return tables;
+        return pool.object(due.n, callsNeeded);
     }
 
     private void compareCounts() {

@@ -30,7 +30,19 @@ public final class RoomTest {
         dearCalls(x);
         long bytes = allocated() - before;
         answers.due("calls make nothing once the tables stand", bytes < 4096 ? "yes" : "no", "yes");
+        throwingMakesNoTable(answers);
         answers.end("RoomTest");
+    }
+
+    /** What throws changes nothing, so it leaves no table behind either. */
+    private static void throwingMakesNoTable(Answers answers) throws IllegalAccessException {
+        EndTables x = new EndTables(8);
+        long before = roomOf(x)[1];
+        answers.dueThrow("a pawn on rank 0", () -> x.distance(1, 63, 1, 40, true), Checks.STATE);
+        answers.dueThrow("no man", () -> x.best(6, 63, 1, 40, true), Checks.ARGUMENT);
+        answers.dueThrow("n", () -> x.play(1, 63, 9, 40, true, 201), Checks.ARGUMENT);
+        answers.dueThrow("d", () -> x.count(1, true, -3), Checks.ARGUMENT);
+        answers.due("the room behind these", "" + roomOf(x)[1], "" + before);
     }
 
     private static void dearCalls(EndTables x) {
