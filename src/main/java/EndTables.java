@@ -41,7 +41,9 @@ public final class EndTables {
     /** By man; a table is made when it is first needed, as most runs do not need all of them. */
     private final Table[] tables;
     private final Position here;
+    /** The moves listed last stand in the first entries of this row. */
     private final int[] moveRow;
+    private int listed;
     private final int[] ending;
     private boolean hasEnding;
 
@@ -52,6 +54,7 @@ public final class EndTables {
         tables = new Table[QUEEN + 1];
         here = new Position();
         moveRow = new int[MOST_MOVES];
+        listed = 0;
         ending = new int[LINE_ENTRIES];
         hasEnding = false;
     }
@@ -230,15 +233,21 @@ public final class EndTables {
 
     /** Writes the moves' numbers into the row of moves and answers how many there are. */
     private int listMovesHere() {
+        listed = 0;
         if (!here.strongMoves) {
-            return listWeakKingMoves();
+            listWeakKingMoves();
+            return listed;
         }
-        int found = listStrongKingMoves();
-        return here.man == PAWN ? listPawnMoves(found) : listManMoves(found);
+        listStrongKingMoves();
+        if (here.man == PAWN) {
+            listPawnMoves();
+        } else {
+            listManMoves();
+        }
+        return listed;
     }
 
-    private int listWeakKingMoves() {
-        int found = 0;
+    private void listWeakKingMoves() {
         for (int d = 0; d < KING_DIRECTIONS; d++) {
             int to = board.step[d][here.weak];
             if (to < 0) {
@@ -248,59 +257,53 @@ public final class EndTables {
                     ? !board.isBeside(to, here.strong)
                     : board.isPosition(here.man, here.strong, here.piece, to, true);
             if (allowed) {
-                moveRow[found] = Position.moveOf(here.weak, to, 0);
-                found++;
+                addMove(here.weak, to, 0);
             }
         }
-        return found;
     }
 
-    private int listStrongKingMoves() {
-        int found = 0;
+    private void listStrongKingMoves() {
         for (int d = 0; d < KING_DIRECTIONS; d++) {
             int to = board.step[d][here.strong];
             if (to >= 0 && board.isPosition(here.man, to, here.piece, here.weak, false)) {
-                moveRow[found] = Position.moveOf(here.strong, to, 0);
-                found++;
+                addMove(here.strong, to, 0);
             }
         }
-        return found;
     }
 
-    private int listManMoves(int foundBefore) {
-        int found = foundBefore;
+    private void listManMoves() {
         int reached = board.reach(here.man, here.piece, here.strong, here.weak);
         for (int k = 0; k < reached; k++) {
             int to = board.reached[k];
             if (isFreeHere(to)) {
-                moveRow[found] = Position.moveOf(here.piece, to, 0);
-                found++;
+                addMove(here.piece, to, 0);
             }
         }
-        return found;
     }
 
-    private int listPawnMoves(int foundBefore) {
-        int found = foundBefore;
+    private void listPawnMoves() {
         int one = here.piece + board.side;
         if (!board.has(one) || !isFreeHere(one)) {
-            return found;
+            return;
         }
         if (board.isLastRank(one)) {
             for (int become = KNIGHT; become <= QUEEN; become++) {
-                moveRow[found] = Position.moveOf(here.piece, one, become);
-                found++;
+                addMove(here.piece, one, become);
             }
-            return found;
+            return;
         }
-        moveRow[found] = Position.moveOf(here.piece, one, 0);
-        found++;
+        addMove(here.piece, one, 0);
         int two = one + board.side;
         if (board.mayStepTwo(here.piece) && isFreeHere(two)) {
-            moveRow[found] = Position.moveOf(here.piece, two, 0);
-            found++;
+            addMove(here.piece, two, 0);
         }
-        return found;
+    }
+
+    private void addMove(int from, int to, int become) {
+        if (listed < moveRow.length) {
+            moveRow[listed] = Position.moveOf(from, to, become);
+            listed++;
+        }
     }
 
     private boolean isFreeHere(int square) {
@@ -479,7 +482,7 @@ public final class EndTables {
             int far = man <= KNIGHT ? 1 : side - 1;
             for (int d = FIRST_DIRECTION[man]; d < END_DIRECTION[man]; d++) {
                 int square = from;
-                for (int k = 0; k < far; k++) {
+                for (int k = 0; k < far && found < reached.length; k++) {
                     square = step[d][square];
                     if (square < 0) {
                         break;
@@ -533,12 +536,16 @@ public final class EndTables {
         }
 
         void tallyUp() {
-            for (int k = 0; k < strong.length; k++) {
-                if (strong[k] != NO_POSITION) {
-                    strongTally[strong[k] + 1]++;
-                }
-                if (weak[k] != NO_POSITION) {
-                    weakTally[weak[k] + 1]++;
+            tallyRow(strong, strongTally);
+            tallyRow(weak, weakTally);
+        }
+
+        /** What is no position has no entry in a tally. */
+        private static void tallyRow(byte[] distances, int[] tally) {
+            for (byte distance : distances) {
+                int entry = distance + 1;
+                if (entry >= 0 && entry < tally.length) {
+                    tally[entry]++;
                 }
             }
         }

@@ -6,6 +6,7 @@ import java.nio.file.Files;
 import java.nio.file.Path;
 import java.util.Arrays;
 import java.util.List;
+import java.util.Set;
 import java.util.TreeSet;
 import java.util.regex.Matcher;
 import java.util.regex.Pattern;
@@ -21,6 +22,7 @@ public final class LanguageTest {
     public static void main(String[] args) throws Exception {
         Answers answers = new Answers();
         face(answers);
+        members(answers);
         String text = Files.readString(SOURCE);
         String code = text.replaceAll("(?s)/\\*.*?\\*/", "").replaceAll("//[^\n]*", "")
                 .replaceAll("\"[^\"\n]*\"", "\"\"");
@@ -35,48 +37,68 @@ public final class LanguageTest {
         answers.end("LanguageTest");
     }
 
-    private static void face(Answers answers) {
+    /** "The public face": what is not private is as the document's code block has it. */
+    private static void face(Answers answers) throws IllegalAccessException {
         Class<?> type = EndTables.class;
+        answers.due("the class", Modifier.toString(type.getModifiers()), "public final");
+        answers.due("what it is", type.getSuperclass() + Arrays.toString(type.getInterfaces()),
+                Object.class + "[]");
         TreeSet<String> methods = new TreeSet<>();
-        TreeSet<String> names = new TreeSet<>();
         for (Method method : type.getDeclaredMethods()) {
             if (!Modifier.isPrivate(method.getModifiers()) && !method.isSynthetic()) {
-                methods.add(describe(method));
-                names.add(method.getName());
+                methods.add(method.toString().replace("java.lang.", ""));
             }
         }
-        String position = "int, int, int, int, boolean";
-        answers.due("methods", methods.toString(), new TreeSet<>(List.of(
-                "public int distance(" + position + ")", "public int moves(" + position + ")",
-                "public int best(" + position + ")", "public int play(" + position + ", int)",
-                "public int line(int)", "public int count(int, boolean, int)",
-                "public int longest(int)", "public int attacks(int, int, int, int, int)",
-                "public int look(int)")).toString());
+        answers.due("methods", methods.toString(), dueMethods().toString());
         for (Field field : type.getDeclaredFields()) {
             if (!Modifier.isPrivate(field.getModifiers())) {
-                answers.due("field", Modifier.toString(field.getModifiers()) + " " + field.getName(),
-                        "public static final NONE");
+                answers.due("field", field.toString(), "public static final int EndTables.NONE");
             }
         }
+        answers.due("NONE", "" + EndTables.NONE, "-1");
         for (Constructor<?> constructor : type.getDeclaredConstructors()) {
             answers.due("constructor", constructor.toString(), "public EndTables(int)");
         }
-        answers.due("the class", Modifier.toString(type.getModifiers()), "public final");
-        for (Class<?> inside : type.getDeclaredClasses()) {
-            answers.due(inside.getName() + " is static",
-                    Modifier.isStatic(inside.getModifiers()) ? "yes" : "no", "yes");
-            for (Method method : inside.getDeclaredMethods()) {
-                answers.due(method + " bears a public name",
-                        names.contains(method.getName()) ? "yes" : "no", "no");
-                answers.due(method + " takes at most seven",
-                        method.getParameterCount() <= 7 ? "yes" : "no", "yes");
-            }
-        }
     }
 
-    private static String describe(Method method) {
-        String types = Arrays.toString(method.getParameterTypes());
-        return Modifier.toString(method.getModifiers()) + " " + method.getReturnType() + " "
-                + method.getName() + "(" + types.substring(1, types.length() - 1) + ")";
+    private static TreeSet<String> dueMethods() {
+        String position = "(int,int,int,int,boolean";
+        String argument = " throws IllegalArgumentException";
+        String both = argument + ",IllegalStateException";
+        TreeSet<String> due = new TreeSet<>();
+        for (String told : List.of("distance" + position + ")" + both,
+                "moves" + position + ")" + both, "best" + position + ")" + both,
+                "play" + position + ",int)" + both, "line(int) throws IndexOutOfBoundsException",
+                "count(int,boolean,int)" + argument, "longest(int)" + argument,
+                "attacks(int,int,int,int,int)" + argument, "look(int)")) {
+            due.add("public int EndTables." + told);
+        }
+        return due;
+    }
+
+    /** Rules 1, 2 and 11: what the classes inside may be, and names and numbers of parameters. */
+    private static void members(Answers answers) {
+        Set<String> publicNames = Set.of("distance", "moves", "best", "play", "line", "count",
+                "longest", "attacks", "look");
+        privateNames(answers, EndTables.class, publicNames);
+        for (Class<?> inside : EndTables.class.getDeclaredClasses()) {
+            int modifiers = inside.getModifiers();
+            answers.due(inside + " is static", "" + Modifier.isStatic(modifiers), "true");
+            answers.due(inside + " is seen outside",
+                    "" + (Modifier.isPublic(modifiers) || Modifier.isProtected(modifiers)), "false");
+            privateNames(answers, inside, publicNames);
+        }
+        answers.due("at most twelve classes",
+                "" + (EndTables.class.getDeclaredClasses().length < 12), "true");
+    }
+
+    private static void privateNames(Answers answers, Class<?> type, Set<String> publicNames) {
+        for (Method method : type.getDeclaredMethods()) {
+            boolean ofTheFace = type == EndTables.class && Modifier.isPublic(method.getModifiers());
+            answers.due(method + " bears a public name",
+                    "" + (!ofTheFace && publicNames.contains(method.getName())), "false");
+            answers.due(method + " takes at most seven",
+                    "" + (method.getParameterCount() <= 7), "true");
+        }
     }
 }
