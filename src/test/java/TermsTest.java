@@ -251,6 +251,23 @@ public final class TermsTest {
                 "k..... ...... ...... P..K.. ...... ......", STRONG, 8 + 1);
         checks.moves("strong, not upon the man",
                 "k..... ...... ...... ..PK.. ...... ......", STRONG, 7 + 1);
+        kingsGoIntoCorners();
+    }
+
+    /** Beside a corner all eight squares are free, the corner's, too; the pawn has one move. */
+    private void kingsGoIntoCorners() {
+        checks.moves("strong, to the first square", "....k ..... ....P .K... .....", STRONG, 8 + 1);
+        checks.moves("strong, to the last of rank 0", "k.... ..... P.... ...K. .....", STRONG, 8 + 1);
+        checks.moves("strong, to the first of rank N - 1",
+                "..... .K... ....P ..... ....k", STRONG, 8 + 1);
+        checks.moves("strong, to the last square", "..... ...K. P.... ..... k....", STRONG, 8 + 1);
+        checks.moves("weak, to the first square", "...KN ..... ..... .k... .....", WEAK, 8);
+        checks.moves("weak, to the last of rank 0", "NK... ..... ..... ...k. .....", WEAK, 8);
+        checks.moves("weak, to the first of rank N - 1", "..... .k... ..... ..... ...KN", WEAK, 8);
+        checks.moves("weak, to the last square", "..... ...k. ..... ..... NK...", WEAK, 8);
+        checks.best("strong, the first square is best", "k... ..R. .... .K..", STRONG, 1 + 64 * 0);
+        checks.best("weak, the first square is best", ".... .... kPK. ....", WEAK, 4 + 64 * 0);
+        checks.best("weak, the last square is best", ".... ...k .... K.Q.", WEAK, 11 + 64 * 15);
     }
 
     /** "a man but a pawn to one that it attacks, where no other one of the three stands" */
